@@ -117,7 +117,7 @@ public final class EditTest {
         x.round();
         check.due("behind it all is free", 0, x.remove(0, 1));
         check.due("it is shown in the next round", -4, x.remove(0, 0));
-        check.due("a load of its own", 0, x.event(0, 1, 0, 0, 1, -1));
+        check.due("another one behind it", 0, x.event(0, 1, 0, 0, 1, -1));
         x.rounds(3);
         check.due("the other one is not shown before the round behind the next", 0, x.event(0, 1, 0, 9, 14, -1));
         begins("soon", x, 0, settled, settled + 20, settled + 25);
@@ -275,7 +275,7 @@ public final class EditTest {
         int t = 100;
         PlayoutStation x = withThree(t);
         check.due("the first one would have no time", -2, x.swap(0, 0));
-        check.due("one without a time", 0, x.event(0, 3, 0, 0, 3, t + 40));
+        check.due("one with a later time", 0, x.event(0, 3, 0, 0, 3, t + 40));
         check.due("a later one before an earlier one", -2, x.swap(0, 2));
         begins("refused", x, 0, t, t + 10, t + 30, t + 40);
         check.throwing("the last one has no next one", Check.NO_SUCH, () -> x.swap(0, 3));

@@ -164,9 +164,6 @@ public final class FailureTest {
         // Disk 5 has moved 8: only what lies on disk 3 and as a copy on 4 comes, of both clips.
         check.due("from disk 3 alone", 8, x.disk(4, 2));
         check.due("new", 2, x.disk(4, 0));
-        for (int c = 0; c < 4; c++) {
-            check.due("shown", 0, x.shown(c, 0));
-        }
         x.round();
         check.due("eight more", 16, x.disk(4, 2));
         x.round();
