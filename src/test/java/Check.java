@@ -1,4 +1,9 @@
+import java.util.List;
 import java.util.NoSuchElementException;
+import java.util.function.Consumer;
+import java.util.function.ObjIntConsumer;
+import java.util.function.Supplier;
+import java.util.function.ToIntFunction;
 
 /** Counts the answers that are not as due, and makes stations that tests begin with. */
 final class Check {
@@ -30,6 +35,55 @@ final class Check {
         if (got != want) {
             wrong++;
             System.out.println(what + " threw " + got + ", due is " + want);
+        }
+    }
+
+    /** The call throws this, and the station is as it would be without the call. */
+    void refusing(String what, Class<? extends RuntimeException> want, Supplier<PlayoutStation> make, Consumer<PlayoutStation> call) {
+        PlayoutStation x = make.get();
+        throwing(what, want, () -> call.accept(x));
+        changesNothing(what, make, call);
+    }
+
+    /** The call answers this, and the station is as it would be without the call. */
+    void refusing(String what, int want, Supplier<PlayoutStation> make, ToIntFunction<PlayoutStation> call) {
+        due(what, want, call.applyAsInt(make.get()));
+        changesNothing(what, make, call::applyAsInt);
+    }
+
+    /** Numbers from low to high are taken; those around them, and the least and the greatest int, are not. */
+    void range(String what, int low, int high, Class<? extends RuntimeException> want, Supplier<PlayoutStation> make,
+            ObjIntConsumer<PlayoutStation> call) {
+        int[] wrongOnes = {low - 1, high + 1, Integer.MIN_VALUE, Integer.MAX_VALUE};
+        for (int number : wrongOnes) {
+            refusing(what + " " + number, want, make, x -> call.accept(x, number));
+        }
+        throwing(what + " " + low, null, () -> call.accept(make.get(), low));
+        throwing(what + " " + high, null, () -> call.accept(make.get(), high));
+    }
+
+    private void changesNothing(String what, Supplier<PlayoutStation> make, Consumer<PlayoutStation> call) {
+        int[] later = {0, 1, 2, 5};
+        for (int rounds : later) {
+            PlayoutStation x = make.get();
+            try {
+                call.accept(x);
+            } catch (RuntimeException e) {
+                // Which one it is was looked at before.
+            }
+            same(what + ", " + rounds + " rounds later", Look.after(rounds, make.get()), Look.after(rounds, x));
+        }
+    }
+
+    void same(String what, List<String> want, List<String> got) {
+        for (int i = 0; i < want.size() || i < got.size(); i++) {
+            String wanted = i < want.size() ? want.get(i) : "nothing";
+            String found = i < got.size() ? got.get(i) : "nothing";
+            if (!wanted.equals(found)) {
+                wrong++;
+                System.out.println(what + ": " + found + ", due is " + wanted);
+                return;
+            }
         }
     }
 

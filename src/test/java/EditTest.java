@@ -1,3 +1,6 @@
+import java.util.ArrayList;
+import java.util.List;
+
 /** Promises 5 to 7, 11 and 12: event, remove, swap, about, events. */
 public final class EditTest {
     private static final Check check = new Check();
@@ -17,6 +20,7 @@ public final class EditTest {
         removeIsRefused();
         swapChangesPlaces();
         swapIsRefused();
+        manyEditsOneBehindTheOther();
         aboutTells();
         theFirstOneLeftGetsATime();
         aboutAndEventsThrow();
@@ -292,6 +296,31 @@ public final class EditTest {
         check.due("third", 0, y.event(0, 2, 0, 5, 10, limit - 9));
         check.due("the second one would end too far ahead", -3, y.swap(0, 1));
         begins("refused", y, 0, limit - 50, limit - 49, limit - 9);
+    }
+
+    /** The first event stays; the others come and go, and each is told by its first frame. */
+    private static void manyEditsOneBehindTheOther() {
+        PlayoutStation x = Check.withClip(0, 6);
+        List<Integer> due = new ArrayList<>(List.of(29));
+        check.due("first", 0, x.event(0, 0, 0, 29, 30, 100));
+        for (int i = 0; i < 24; i++) {
+            int k = 1 + i * 5 % due.size();
+            check.due("comes", 0, x.event(0, k, 0, i, 30, -1));
+            due.add(k, i);
+            if (i % 3 > 0) {
+                int gone = 1 + i % (due.size() - 1);
+                check.due("goes", 0, x.remove(0, gone));
+                due.remove(gone);
+            }
+            if (due.size() > 2) {
+                check.due("change places", 0, x.swap(0, due.size() - 2));
+                due.add(due.size() - 2, due.remove(due.size() - 1));
+            }
+            check.due("events", due.size(), x.events(0));
+            for (int j = 0; j < due.size(); j++) {
+                check.due("in of " + j + " behind edit " + i, due.get(j), x.about(0, j, 1));
+            }
+        }
     }
 
     private static void aboutTells() {

@@ -207,6 +207,7 @@ public final class FailureTest {
         x.replace();
         x.round();
         check.due("only the other clip's", 2, x.disk(1, 2));
+        check.due("works", 0, x.disk(1, 0));
         check.due("restored", 2, x.many(2));
     }
 }
